@@ -1,5 +1,3 @@
-import java.util.Arrays;
-
 /**
  * Runs test methods step by step: they are selected by groups and name patterns, ordered by what
  * they need and by priority, fed with rows and surrounded by configurations.
@@ -292,11 +290,10 @@ public final class SuiteRunner {
             if (deed == 5) {
                 return SKIP;
             }
-            boolean throwsSome = deed >= 2 && deed <= 4;
-            boolean returns = deed == 0 || deed > 5;
             int wanted = traits[WANTED];
-            boolean asWanted = wanted == 0 ? returns : throwsSome && deed - 1 == wanted;
-            return asWanted ? PASS : FAIL;
+            boolean returns = deed == 0 || deed > 5;
+            boolean throwsWanted = deed == wanted + 1;
+            return (wanted == 0 ? returns : throwsWanted) ? PASS : FAIL;
         }
     }
 
@@ -647,6 +644,7 @@ public final class SuiteRunner {
         final Options options = new Options();
         final Log log = new Log();
         final Progress[] progress = new Progress[MOST_METHODS];
+        /** The method of each worker; all have none when no run is under way. */
         final int[] hands = {NONE, NONE, NONE};
         boolean underWay;
         boolean anyOver;
@@ -677,7 +675,6 @@ public final class SuiteRunner {
             failedPlaces = 0;
             log.clear();
             catalog.forgetRuns();
-            Arrays.fill(hands, NONE);
             for (int m = 0; m < MOST_METHODS; m++) {
                 progress[m].reset(holds(chosen, m) ? WAITING : NOT_SELECTED);
                 needed[m] = catalog.needsWithin(m, chosen);

@@ -70,6 +70,13 @@ public final class AgainTest {
         z.trait(4, Words.GROUPS, 2);
         z.needsGroup(0, 1);
         CHECK.due("by a group and by others", z.again(), 31);
+        SuiteRunner first = Words.withMethods("a", "b", "c");
+        first.trait(0, Words.BEHAVIOUR, 1);
+        first.needs(0, 1);
+        first.needs(1, 2);
+        first.start();
+        first.tick(100);
+        CHECK.due("what the first one needs", first.again(), 7);
     }
 
     private static void byWhatIsSelectedNow() {

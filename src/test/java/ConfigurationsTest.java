@@ -12,6 +12,9 @@ public final class ConfigurationsTest {
         policyNotToSkip();
         failsByItsBits();
         afterClassOfTheLast();
+        afterClassOfTheFirst();
+        turnsComeAnew();
+        failuresAddUp();
         suiteClassMeansNothing();
         brokenProviderHadItsTurn();
         workersByNumber();
@@ -143,6 +146,39 @@ public final class ConfigurationsTest {
         run(x);
         CHECK.events("of the selected ones", x, "1 enter 0 0", "2 end 0 1", "2 done 0 3", "2 enter 1 0", "3 end 1 1",
             "3 done 1 3", "3 conf 0 2", "3 enter 2 0", "4 end 2 1", "4 done 2 3", "4 over 0 0");
+    }
+
+    private static void afterClassOfTheFirst() {
+        SuiteRunner x = new SuiteRunner();
+        x.method(0, Words.name("z"));
+        x.method(0, Words.name("a"));
+        x.method(1, Words.name("b"));
+        x.configuration(Words.CLASS, false, 0, 0);
+        x.configuration(Words.CLASS, false, 1, 0);
+        run(x);
+        CHECK.events("when method 0 ends last", x, "1 enter 1 0", "2 end 1 1", "2 done 1 3", "2 enter 2 0", "3 end 2 1",
+            "3 done 2 3", "3 conf 1 1", "3 enter 0 0", "4 end 0 1", "4 done 0 3", "4 conf 0 1", "4 over 0 0");
+    }
+
+    private static void turnsComeAnew() {
+        SuiteRunner x = Words.withMethods("a");
+        x.configuration(Words.CLASS, true, 0, 0);
+        x.configuration(Words.SUITE, true, 0, 0);
+        x.configuration(Words.METHOD, true, 0, 1);
+        for (int i = 0; i < 2; i++) {
+            run(x);
+            CHECK.events("run " + i, x, "1 conf 1 1", "1 conf 0 1", "1 conf 2 2", "1 end 0 3", "1 done 0 5", "1 over 0 0");
+            CHECK.due("skips are counted anew", x.report(0, Words.SKIPS), 1);
+        }
+    }
+
+    private static void failuresAddUp() {
+        SuiteRunner x = Words.withMethods("a", "c");
+        x.method(1, Words.name("b"));
+        x.configuration(Words.CLASS, true, 0, 1);
+        x.configuration(Words.CLASS, true, 1, 1);
+        run(x);
+        CHECK.events("class 0 stays blocked", x, "1 conf 0 2", "1 done 0 5", "1 conf 1 2", "1 done 2 5", "1 done 1 5", "1 over 0 0");
     }
 
     private static void suiteClassMeansNothing() {

@@ -13,6 +13,7 @@ public final class RunningTest {
         promise14Running();
         orderOfTaking();
         needsAreWaitedFor();
+        sixteenInOneTick();
         promise19Workers();
         modeClasses();
         CHECK.end();
@@ -196,6 +197,25 @@ public final class RunningTest {
         for (int i = 0; i < due.length; i++) {
             CHECK.due("taken as number " + i + ": " + due[i], x.report(due[i], Words.TAKEN), i + 1);
         }
+        SuiteRunner z = Words.withMethods("a", "b", "c");
+        z.trait(2, Words.PRIORITY, -1);
+        z.trait(1, Words.PRIORITY, 1);
+        z.trait(1, Words.PRIORITY, 0);
+        z.trait(0, Words.PRIORITY, 1);
+        z.start();
+        z.tick(100);
+        CHECK.due("-1 first", z.report(2, Words.TAKEN), 1);
+        CHECK.due("1 last", z.report(0, Words.TAKEN), 3);
+        SuiteRunner zero = Words.withMethods("b", "a");
+        zero.trait(1, Words.PRIORITY, 0);
+        zero.start();
+        zero.tick(1);
+        CHECK.due("at first the priority is 0", zero.worker(0), 1);
+        zero.tick(100);
+        zero.trait(1, Words.PRIORITY, 1);
+        zero.start();
+        zero.tick(1);
+        CHECK.due("which comes before 1", zero.worker(0), 0);
         SuiteRunner y = Words.withMethods("a", "a", "a");
         y.start();
         y.tick(100);
@@ -220,6 +240,20 @@ public final class RunningTest {
         CHECK.due("worker 0 takes it in the tick when 2 ends", x.worker(0), 0);
         CHECK.due("taken", x.report(0, Words.TAKEN), x.report(2, Words.ENDED));
         CHECK.due("rest", x.tick(100), 1);
+    }
+
+    private static void sixteenInOneTick() {
+        SuiteRunner x = new SuiteRunner();
+        x.provider(0, -1);
+        for (int m = 0; m < 16; m++) {
+            x.method(m % 4, Words.name("a"));
+            x.trait(m, Words.PROVIDER, 0);
+        }
+        x.start();
+        CHECK.due("a worker takes as long as it has none", x.tick(100), 1);
+        for (int m = 0; m < 16; m++) {
+            CHECK.due("skipped " + m, x.report(m, Words.STATUS), Words.SKIPPED);
+        }
     }
 
     private static void promise19Workers() {
