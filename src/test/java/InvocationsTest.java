@@ -1,18 +1,7 @@
-/** What invocations and methods come to, and what fails makes others be skipped: the terms of promises 12 and 18. */
+/** What invocations and methods come to: the terms of promises 12 and 18. */
 public final class InvocationsTest {
-    private static final Check CHECK = new Check("InvocationsTest");
-    private static final int NONE = SuiteRunner.NONE;
-
     public static void main(String[] args) {
-        results();
-        behaviourGoesRoundAfterTen();
-        percent();
-        allSkipped();
-        noneDue();
-        skippedByNeeds();
-        always();
-        promise18Report();
-        CHECK.end();
+        Check.all(InvocationsTest.class);
     }
 
     private static SuiteRunner ran(int behaviour, int wanted, int percent, int count) {
@@ -21,12 +10,15 @@ public final class InvocationsTest {
         x.trait(0, Words.WANTED, wanted);
         x.trait(0, Words.PERCENT, percent);
         x.trait(0, Words.COUNT, count);
-        x.start();
-        x.tick(100);
+        Words.run(x);
         return x;
     }
 
-    private static void results() {
+    private static int statusOf(int behaviour, int percent, int count) {
+        return ran(behaviour, 0, percent, count).report(0, Words.STATUS);
+    }
+
+    static void results() {
         int p = Words.PASSED;
         int f = Words.FAILED;
         int s = Words.SKIPPED;
@@ -36,143 +28,87 @@ public final class InvocationsTest {
                 SuiteRunner x = ran(deed, wanted, 100, 1);
                 String what = "deed " + deed + ", wanted " + wanted;
                 int status = due[wanted][deed];
-                CHECK.due(what, x.report(0, Words.STATUS), status);
-                CHECK.due(what + ": passes", x.report(0, Words.PASSES), status == p ? 1 : 0);
-                CHECK.due(what + ": fails", x.report(0, Words.FAILS), status == f ? 1 : 0);
-                CHECK.due(what + ": skips", x.report(0, Words.SKIPS), status == s ? 1 : 0);
-                CHECK.due(what + ": entered", x.report(0, Words.ENTERED), 1);
-                CHECK.events(what, x, "1 enter 0 0", "2 end 0 " + (status - 2), "2 done 0 " + status, "2 over 0 0");
+                Check.report(what, x, 0, status, status == p ? 1 : 0, status == f ? 1 : 0, status == s ? 1 : 0, 1, 1, 2);
+                Check.events(what, x, "1 enter 0 0", "2 end 0 " + (status - 2), "2 done 0 " + status, "2 over 0 0");
             }
         }
     }
 
-    private static void behaviourGoesRoundAfterTen() {
-        SuiteRunner x = Words.withMethods("a");
-        x.trait(0, Words.COUNT, 4);
-        x.trait(0, Words.PROVIDER, 2);
-        x.provider(2, 4);
-        // Invocation 0 fails, 9 does 5 (asks to be skipped), and so does, after ten, only 10 as 0 did.
-        x.trait(0, Words.BEHAVIOUR, 1 | 5 << 27);
-        x.start();
-        x.tick(100);
-        CHECK.due("entered", x.report(0, Words.ENTERED), 16);
-        CHECK.due("fails", x.report(0, Words.FAILS), 2);
-        CHECK.due("skips", x.report(0, Words.SKIPS), 1);
-        CHECK.due("passes", x.report(0, Words.PASSES), 13);
-        // From the latest one: over, done, end 15, enter 15, ..
-        CHECK.due("invocation 15 entered", x.event(3), 1 + 128 * 15 + 2048 * 16);
-        CHECK.due("invocation 10 failed", x.event(2 + 2 * 5), 2 + 128 * 2 + 2048 * 12);
-        CHECK.due("invocation 9 was skipped", x.event(2 + 2 * 6), 2 + 128 * 3 + 2048 * 11);
+    /** behaviour >> 3 * (j % 10) & 7: the deed at place j is done by invocation j, and by j + 10. */
+    static void eachInvocationHasItsBits() {
+        for (int place = 0; place < 10; place++) {
+            for (int others : new int[] {0, 3 << 30}) {
+                SuiteRunner x = Words.withMethods("a");
+                x.trait(0, Words.COUNT, 4);
+                x.trait(0, Words.PROVIDER, 2);
+                x.provider(2, 4);
+                x.trait(0, Words.BEHAVIOUR, 5 << 3 * place | others);
+                Words.run(x);
+                Check.due("entered", x.report(0, Words.ENTERED), 16);
+                Check.due("skips by place " + place, x.report(0, Words.SKIPS), place < 6 ? 2 : 1);
+                for (int j = 0; j < 16; j++) {
+                    // From the latest one: over, done, end 15, enter 15, end 14, ..
+                    int result = x.event(2 + 2 * (15 - j)) / 128 % 16;
+                    Check.due("place " + place + ", invocation " + j, result, j % 10 == place ? 3 : 1);
+                }
+            }
+        }
     }
 
-    private static void percent() {
-        int oneOfFourFails = 1;
-        CHECK.due("75 of 75", ran(oneOfFourFails, 0, 75, 4).report(0, 0), Words.PASSED);
-        CHECK.due("75 of 76", ran(oneOfFourFails, 0, 76, 4).report(0, 0), Words.FAILED);
-        int oneOfThreeFails = 1;
-        CHECK.due("66.7 of 66", ran(oneOfThreeFails, 0, 66, 3).report(0, 0), Words.PASSED);
-        CHECK.due("66.7 of 67", ran(oneOfThreeFails, 0, 67, 3).report(0, 0), Words.FAILED);
-        CHECK.due("0 of 1", ran(1, 0, 1, 1).report(0, 0), Words.FAILED);
-        CHECK.due("100 of 100", ran(0, 0, 100, 4).report(0, 0), Words.PASSED);
+    /** A negative behaviour is shifted with its sign, which is never in the three bits looked at. */
+    static void aNegativeBehaviour() {
+        SuiteRunner x = ran(-1, 0, 100, 4);
+        Check.report("all do 7", x, 0, Words.PASSED, 4, 0, 0, 4, 1, 5);
+        SuiteRunner y = ran(Integer.MIN_VALUE, 1, 100, 1);
+        Check.due("0 throws nothing", y.report(0, Words.STATUS), Words.FAILED);
+    }
+
+    static void percentIsReached() {
+        int oneFails = 1;
+        Check.due("75 of 75", statusOf(oneFails, 75, 4), Words.PASSED);
+        Check.due("75 of 76", statusOf(oneFails, 76, 4), Words.FAILED);
+        Check.due("66.7 of 66", statusOf(oneFails, 66, 3), Words.PASSED);
+        Check.due("66.7 of 67", statusOf(oneFails, 67, 3), Words.FAILED);
+        Check.due("50 of 50", statusOf(oneFails, 50, 2), Words.PASSED);
+        Check.due("50 of 51", statusOf(oneFails, 51, 2), Words.FAILED);
+    }
+
+    static void nonePasses() {
+        Check.due("0 of 1", statusOf(1, 1, 1), Words.FAILED);
+        Check.due("0 of 100", statusOf(1, 100, 1), Words.FAILED);
+    }
+
+    /** "FAILED if there was a FAIL": without one PERCENT does not count. */
+    static void noneFails() {
+        Check.due("100 of 100", statusOf(0, 100, 4), Words.PASSED);
+        Check.due("skips beside passes", statusOf(5 | 5 << 3 | 5 << 6, 100, 4), Words.PASSED);
+    }
+
+    static void skipsDoNotCount() {
         int failSkipSkipPass = 1 | 5 << 3 | 5 << 6;
-        CHECK.due("skips do not count: 50 of 50", ran(failSkipSkipPass, 0, 50, 4).report(0, 0), Words.PASSED);
-        CHECK.due("skips do not count: 50 of 51", ran(failSkipSkipPass, 0, 51, 4).report(0, 0), Words.FAILED);
+        Check.due("50 of 50", statusOf(failSkipSkipPass, 50, 4), Words.PASSED);
+        Check.due("50 of 51", statusOf(failSkipSkipPass, 51, 4), Words.FAILED);
     }
 
-    private static void allSkipped() {
-        CHECK.due("all skip", ran(5 | 5 << 3, 0, 100, 2).report(0, 0), Words.SKIPPED);
-        CHECK.due("one passes", ran(5, 0, 100, 2).report(0, 0), Words.PASSED);
-        CHECK.due("one fails", ran(5 | 1 << 3, 0, 100, 2).report(0, 0), Words.FAILED);
+    static void allAreSkipped() {
+        Check.due("the only one", statusOf(5, 100, 1), Words.SKIPPED);
+        Check.due("all skip", statusOf(5 | 5 << 3, 100, 2), Words.SKIPPED);
+        Check.due("one passes", statusOf(5, 100, 2), Words.PASSED);
+        Check.due("one fails", statusOf(5 | 1 << 3, 100, 2), Words.FAILED);
+        Check.due("one fails, percent 1", statusOf(5 | 1 << 3, 1, 2), Words.FAILED);
     }
 
-    private static void noneDue() {
-        SuiteRunner x = Words.withMethods("a", "b");
-        x.configuration(Words.METHOD, true, 0, 1);
-        x.provider(3, 0);
-        x.trait(0, Words.PROVIDER, 3);
-        x.trait(1, Words.PROVIDER, 3);
-        x.trait(0, Words.COUNT, 4);
-        x.needs(1, 0);
-        x.start();
-        CHECK.due("ends when it is taken", x.tick(100), 1);
-        CHECK.due("passed", x.report(0, Words.STATUS), Words.PASSED);
-        CHECK.due("so the other passes, too", x.report(1, Words.STATUS), Words.PASSED);
-        CHECK.events("none due", x, "1 done 0 3", "1 done 1 3", "1 over 0 0");
-    }
-
-    private static void skippedByNeeds() {
-        SuiteRunner x = Words.withMethods("a", "b", "c", "d");
-        x.method(1, Words.name("e"));
-        x.configuration(Words.CLASS, true, 1, 0);
-        x.configuration(Words.CLASS, false, 1, 0);
-        x.configuration(Words.SUITE, true, 0, 0);
-        x.trait(0, Words.BEHAVIOUR, 2);
-        x.trait(3, Words.GROUPS, 1);
-        x.trait(0, Words.GROUPS, 1);
-        x.needs(1, 0);
-        x.needs(2, 1);
-        x.needsGroup(4, 0);
-        x.start();
-        x.tick(100);
-        CHECK.due("failed", x.report(0, Words.STATUS), Words.FAILED);
-        CHECK.due("its need failed", x.report(1, Words.STATUS), Words.SKIPPED);
-        CHECK.due("its need was skipped", x.report(2, Words.STATUS), Words.SKIPPED);
-        CHECK.due("needs nothing", x.report(3, Words.STATUS), Words.PASSED);
-        CHECK.due("one of a group failed", x.report(4, Words.STATUS), Words.SKIPPED);
-        CHECK.due("no invocation was skipped", x.report(1, Words.SKIPS), 0);
-        CHECK.due("taken", x.report(1, Words.TAKEN), 2);
-        CHECK.due("ended", x.report(1, Words.ENDED), 2);
-        CHECK.events("class 1 has no turn, before or after", x, "1 conf 2 1", "1 enter 0 0", "2 end 0 2", "2 done 0 4",
-            "2 done 1 5", "2 done 2 5", "2 enter 3 0", "3 end 3 1", "3 done 3 3", "3 done 4 5", "3 over 0 0");
-    }
-
-    private static void always() {
-        SuiteRunner x = Words.withMethods("a", "b", "c");
-        x.trait(0, Words.BEHAVIOUR, 1);
-        x.needs(1, 0);
-        x.trait(1, Words.ALWAYS, 1);
-        x.needs(2, 1);
-        x.start();
-        x.tick(100);
-        CHECK.due("runs all the same", x.report(1, Words.STATUS), Words.PASSED);
-        CHECK.due("after it", x.report(1, Words.TAKEN), 2);
-        CHECK.due("who needs only this one passes", x.report(2, Words.STATUS), Words.PASSED);
-        x.configuration(Words.METHOD, false, 0, 1);
-        x.start();
-        x.tick(100);
-        CHECK.due("ALWAYS does not help one that is blocked", x.report(1, Words.STATUS), Words.SKIPPED);
-    }
-
-    private static void promise18Report() {
-        SuiteRunner x = Words.withMethods("a", "b", "c");
-        for (int what = 0; what < 7; what++) {
-            CHECK.due("before any run " + what, x.report(0, what), what < 5 ? 0 : NONE);
+    /** Each begins when the one before has ended, in the same tick; DURATION 1 and 9. */
+    static void oneAfterTheOther() {
+        for (int duration : new int[] {1, 9}) {
+            SuiteRunner x = Words.withMethods("a");
+            x.trait(0, Words.DURATION, duration);
+            x.trait(0, Words.COUNT, 2);
+            Words.run(x);
+            int first = 1 + duration;
+            int second = 1 + 2 * duration;
+            Check.events("duration " + duration, x, "1 enter 0 0", first + " end 0 1", first + " enter 0 1", second + " end 0 1",
+                second + " done 0 3", second + " over 0 0");
         }
-        x.trait(2, Words.GROUPS, 1);
-        x.select(15, 0, 1);
-        x.trait(0, Words.COUNT, 3);
-        x.trait(0, Words.DURATION, 2);
-        x.trait(0, Words.BEHAVIOUR, 1 << 3 | 5 << 6);
-        x.start();
-        x.tick(4);
-        int[] due = {Words.RUNNING, 1, 0, 0, 2, 1, NONE};
-        for (int what = 0; what < 7; what++) {
-            CHECK.due("running " + what, x.report(0, what), due[what]);
-            CHECK.due("waiting " + what, x.report(1, what), what == 0 ? Words.WAITING : what < 5 ? 0 : NONE);
-            CHECK.due("not selected " + what, x.report(2, what), what < 5 ? 0 : NONE);
-        }
-        x.tick(100);
-        int[] over = {Words.FAILED, 1, 1, 1, 3, 1, 7};
-        for (int what = 0; what < 7; what++) {
-            CHECK.due("over " + what, x.report(0, what), over[what]);
-        }
-        CHECK.due("what 7", x.report(0, 7), NONE);
-        CHECK.due("what -1", x.report(0, -1), NONE);
-        CHECK.due("method 3", x.report(3, 0), NONE);
-        CHECK.due("method -1", x.report(-1, 0), NONE);
-        CHECK.due("method 16", x.report(16, 0), NONE);
-        x.method(0, Words.name("d"));
-        CHECK.due("declared after the run", x.report(3, Words.STATUS), 0);
-        CHECK.due("declared after the run, taken", x.report(3, Words.TAKEN), NONE);
     }
 }

@@ -2,11 +2,14 @@
 public final class ModelTest {
     private static final int OBJECTS = 1500;
     private static final int CALLS = 512;
+    /** No pick makes more calls than declareType. */
+    private static final int MOST_AT_ONCE = 3;
 
     private final SuiteRunner x = new SuiteRunner();
     private final Model y = new Model();
     private final StringBuilder calls = new StringBuilder();
     private long seed;
+    private int made;
     private boolean differs;
 
     private ModelTest(long seed) {
@@ -28,16 +31,15 @@ public final class ModelTest {
     }
 
     private boolean agrees() {
-        int made = 0;
         int methods = 1 + below(16);
-        for (int m = 0; m < methods; m++, made++) {
+        for (int m = 0; m < methods; m++) {
             declareMethod();
         }
         int declared = below(40);
-        for (int i = 0; i < declared; i++, made++) {
+        for (int i = 0; i < declared; i++) {
             declare(below(20));
         }
-        for (; made < CALLS && !differs; made++) {
+        while (made <= CALLS - MOST_AT_ONCE && !differs) {
             int pick = below(100);
             if (pick < 12) {
                 declare(below(20));
@@ -64,6 +66,7 @@ public final class ModelTest {
     }
 
     private void due(String call, long got, long want) {
+        made++;
         calls.append(call).append(" answered ").append(got).append('\n');
         if (got != want) {
             calls.append("due was ").append(want).append('\n');

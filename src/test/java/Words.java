@@ -49,6 +49,18 @@ final class Words {
         return x;
     }
 
+    /** Goes on until the run is over; 400 ticks are more than any run of these tests has left. */
+    static void rest(SuiteRunner x) {
+        for (int i = 0; i < 4; i++) {
+            x.tick(100);
+        }
+    }
+
+    static void run(SuiteRunner x) {
+        x.start();
+        rest(x);
+    }
+
     static void typeAll(SuiteRunner x, boolean including, String pattern) {
         for (char c : pattern.toCharArray()) {
             x.type(including, c);
