@@ -142,7 +142,7 @@ final class Story {
         return all;
     }
 
-    /** Its methods in the order in which two workers take them: 0 and 1, 4, 6, 2, 3, 7, 5. */
+    /** Two workers; 1 passes by its percent, 4 fails, so 5 is skipped; 6 is blocked half way, 7 has a broken provider. */
     private static void declareWorld(SuiteRunner x) {
         int[] classes = {0, 0, 1, 1, 2, 3, 3, 2};
         String[] names = {"ab", "b", "a", "ca", "c", "d", "ce", "f"};

@@ -42,11 +42,7 @@ final class Words {
 
     /** An object with one method for each name, all of class 0. */
     static SuiteRunner withMethods(String... names) {
-        SuiteRunner x = new SuiteRunner();
-        for (String each : names) {
-            x.method(0, name(each));
-        }
-        return x;
+        return Story.methods(names).told();
     }
 
     /** Goes on until the run is over; 400 ticks are more than any run of these tests has left. */
